@@ -301,20 +301,23 @@ public final class QuadSnail {
     /** Carries out the order that begins at this index; false if it cannot be. */
     private boolean follow(Garden garden, int start) {
         Snail one = garden.snail(text.digit(start));
-        switch (text.sign(start + 1)) {
-            case 'm':
-                one.passMark(garden.counts);
-                return true;
-            case 'b':
-                int feelings = text.number(start + 2);
-                if (!one.canRetrace(feelings)) {
-                    return false;
-                }
-                one.retrace(feelings);
-                return true;
-            default:
-                return feelAll(one, garden.rule, start + 2, text.endOfOrder(start));
+        char kind = text.sign(start + 1);
+        if (kind == 'm') {
+            one.passMark(garden.counts);
+            return true;
         }
+        if (kind == 'b') {
+            return goBackIfPossible(one, text.number(start + 2));
+        }
+        return feelAll(one, garden.rule, start + 2, text.endOfOrder(start));
+    }
+
+    private static boolean goBackIfPossible(Snail one, int feelings) {
+        if (!one.canRetrace(feelings)) {
+            return false;
+        }
+        one.retrace(feelings);
+        return true;
     }
 
     private boolean feelAll(Snail one, int rule, int from, int end) {
@@ -713,16 +716,13 @@ public final class QuadSnail {
         }
 
         private static int placeAfterSnail(char sign) {
-            switch (sign) {
-                case ':':
-                    return AFTER_COLON;
-                case 'm':
-                    return ORDER_COMPLETE;
-                case 'b':
-                    return AFTER_B;
-                default:
-                    return NOWHERE;
+            if (sign == ':') {
+                return AFTER_COLON;
             }
+            if (sign == 'b') {
+                return AFTER_B;
+            }
+            return sign == 'm' ? ORDER_COMPLETE : NOWHERE;
         }
 
         private static boolean isBetween(char least, char sign, char most) {

@@ -24,6 +24,7 @@ public final class LimitsTest {
         DUE.badState(x, "3: crawl above the limit", () -> x.crawl(0, 11));
         DUE.badState(x, "3: crawl above the limit, backward", () -> x.crawl(0, -11));
         DUE.badState(x, "5: goBack above the limit", () -> x.goBack(0, 1));
+        wayBackUpToTheLimit(x);
         failing(x, "1m;0:13201320132", 1);
         failing(x, "0:13201;0:320132;1m", 1);
         failing(x, "0b1", 0);
@@ -35,6 +36,19 @@ public final class LimitsTest {
         DUE.is("3: a crawl of nothing", x.crawl(0, 0), -8);
         DUE.badState(x, "2: feel at the limit", () -> x.feel(0, 0, 1));
         DUE.is("another snail has ticks left", x.feel(1, 1, 1000), 1);
+    }
+
+    /** With ten ticks left, six there leave four: too few for the way back, as five are enough for five. */
+    private static void wayBackUpToTheLimit(QuadSnail x) {
+        int position = x.positionOf(0);
+        x.feel(0, 1, 6);
+        DUE.badState(x, "5: one tick too many", () -> x.goBack(0, 1));
+        x.undo();
+        x.feel(0, 1, 5);
+        DUE.is("5: goBack up to the limit", x.goBack(0, 1), position);
+        DUE.is("5: ticks at the limit", x.ticksOf(0), LIMIT);
+        x.undo();
+        x.undo();
     }
 
     private static void distance() {
@@ -62,6 +76,13 @@ public final class LimitsTest {
         DUE.is("distance at the limit", x.distanceOf(0), LIMIT);
         DUE.badState(x, "5: goBack at the limit", () -> x.goBack(0, 1));
         DUE.badState(x, "3: crawl at the limit", () -> x.crawl(0, 1));
+        for (int next = 0; next < 4; next++) {
+            int state = next;
+            if (x.stepTo(0, state) != 0) {
+                DUE.badState(x, "2: feel at the limit, to " + state, () -> x.feel(0, state, 1));
+                failing(x, "0:" + state, 0);
+            }
+        }
         DUE.is("2: a feeling without a step goes on", x.feel(0, x.stateOf(0), 1), 0);
         DUE.is("5: so does its way back", x.goBack(0, 1), x.positionOf(0));
     }
