@@ -306,13 +306,10 @@ public final class QuadSnail {
             one.passMark(garden.counts);
             return true;
         }
-        if (kind == 'b') {
-            return goBackIfPossible(one, text.number(start + 2));
+        if (kind != 'b') {
+            return feelAll(one, garden.rule, start + 2, text.endOfOrder(start));
         }
-        return feelAll(one, garden.rule, start + 2, text.endOfOrder(start));
-    }
-
-    private static boolean goBackIfPossible(Snail one, int feelings) {
+        int feelings = text.number(start + 2);
         if (!one.canRetrace(feelings)) {
             return false;
         }
